@@ -83,6 +83,7 @@ public final class PromisesTest {
         sale();
         learned();
         doubt();
+        doubtOfTheFirst();
         set();
         price();
         share();
@@ -415,7 +416,13 @@ public final class PromisesTest {
         due("beyond", x.owed(1, 0, 73001), LOST - 2);
         due("no holding", x.owed(2, 5, 4), LOST - 1);
         due("a WHOLE", x.owed(0, 0, 73000), 0);
+        x.lease(0, 1, 1000, 73000, 1);
+        x.rent(2, 73, 2);
+        due("no more than 10 times", x.owed(2, 1000 + 20 * 365, 1000 + 24 * 365), 73 * 1024 * 4);
+        due("the 10th", x.owed(2, 1000 + 20 * 365 - 5, 1000 + 20 * 365 + 5), 512 + 1024);
+        due("the 1st", x.owed(2, 0, 1005), 1);
         x.rent(1, 365, 0);
+        due("never doubles, from", x.owed(1, 0, 101), 1);
         due("never doubles", x.owed(1, 150, 160), 10);
         x.today(155);
         x.end(1, 1);
@@ -522,25 +529,24 @@ public final class PromisesTest {
         x.today(11);
         due("the next day", x.right(1, 0), 1);
         String[] so = {"f=3&o=1&t=100", "f=4|o=1", "f=3|o=9&t=1", "!f=4", "!(f=4|o=2)", "!!f=3", "(f=4|f=3)&o=1", "f<4&f>2",
-            "f=3|f=3&f=4", "((((((((((((((((((((((f=3))))))))))))))))))))))"};
+            "f=3|f=3&f=4", "!f=4&f=3", "!(f=4)&(f=3)", "!f=4&!(!f=3&f=3)", "f=4|(f=4|!f=4)&f=3", "((((((((((((((((((((((f=3))))))))))))))))))))))"};
         String[] not = {"f=4&o=1", "f=4|o=9", "(f=3|o=1)&t=9", "!f=3", "!(f=4|o=1)", "f<3", "f>3", "!(f=3)&o=1", "f=4&f=3|f=5"};
-        x = new LeaseLand();
-        house();
-        for (int i = 0; i < so.length; i++) {
-            law(1, i, so[i]);
-            x.today(i);
-            due(so[i], x.right(1, 1), 1);
+        for (String signs : so) {
+            x = new LeaseLand();
+            house();
+            law(1, 0, signs);
+            due(signs, x.right(1, 1), 1);
         }
-        x = new LeaseLand();
-        house();
-        for (int i = 0; i < not.length; i++) {
-            law(1, i, not[i]);
-            x.today(i);
-            due(not[i], x.right(1, 1), 0);
+        for (String signs : not) {
+            x = new LeaseLand();
+            house();
+            law(1, 0, signs);
+            due(signs, x.right(1, 1), 0);
         }
         x.today(3650);
         due("over", x.right(2, 1), STATE);
         due("STATE ahead of NONE", x.right(2, 3), STATE);
+        due("NONE", x.right(1, 3), NONE);
     }
 
     private static void decisive() {
@@ -593,6 +599,9 @@ public final class PromisesTest {
         due("sign -1", x.fact(1, -1), OUTSIDE);
         due("no holding", x.fact(3, 'x'), UNKNOWN);
         due("WHOLE t", x.fact(0, 't'), 200);
+        x.lease(0, 8, 365, 365 + 729, 1);
+        x.lease(1, 4, 365, 365 + 366, 1);
+        due("t from its from on", x.fact(3, 't'), 1);
         x.today(1000);
         due("over", x.fact(1, 'l'), STATE);
         due("OUTSIDE first", x.fact(1, 'x'), OUTSIDE);
@@ -1027,6 +1036,21 @@ public final class PromisesTest {
         due("off by 6/5", x.doubt(0) * 100 + x.doubt(1), 605);
     }
 
+    private static void doubtOfTheFirst() {
+        promise("38 doubt, of the first and of the last");
+        x.sale(5, 9);
+        x.sale(5, 3);
+        x.sale(5, 3);
+        x.sale(6, 3);
+        due("the first", x.doubt(0) * 100 + x.doubt(1), 401);
+        x = new LeaseLand();
+        x.sale(6, 3);
+        x.sale(5, 3);
+        x.sale(5, 3);
+        x.sale(5, 9);
+        due("the last", x.doubt(0) * 100 + x.doubt(1), 401);
+    }
+
     private static void set() {
         promise("39 set");
         due("YP", x.set(0, 500), 100);
@@ -1066,6 +1090,8 @@ public final class PromisesTest {
         due("what 4", x.price(2, 4), LOST - 2);
         due("what -1", x.price(2, -1), LOST - 2);
         x.rent(2, 100000, 0);
+        x.point(101, 8000);
+        due("90 YEARS more, no more", x.price(2, 1), 8000);
         due("no MARRIAGE below 0", x.price(2, 2), 0);
         due("PRICE then", x.price(2, 0), 550000 + 38 + 2970);
         x.blank();
@@ -1085,12 +1111,18 @@ public final class PromisesTest {
         due("behind", x.share(2, 2), LOST - 6);
         due("-1", x.share(2, -1), LOST - 6);
         due("out of the WHOLE alone", x.share(1, 0), x.price(1, 0));
+        x.between(1, 1, 0, 3650, 4);
+        x.rent(3, 9, 0);
+        due("three: the nearest", x.share(2, 0), 71 + (8000 - 3128) / 2 * 71 / 3128);
+        due("three: the next", x.share(2, 1), 49 + (8000 - 3128) / 2 * 49 / 3128);
+        due("three: the WHOLE", x.share(2, 2), x.price(2, 0) - x.share(2, 0) - x.share(2, 1));
         due("a WHOLE", x.share(0, 0), LOST - 1);
         due("none", x.share(9, 0), LOST - 1);
         x.set(0, 0);
         x.set(1, 0);
         due("no LOSSES", x.share(2, 0), 0);
-        due("all MARRIAGE", x.share(2, 1), 4000);
+        due("none of MARRIAGE", x.share(2, 1), 0);
+        due("all MARRIAGE", x.share(2, 2), 4000);
         x.today(3650);
         due("over", x.share(2, 0), LOST - 3);
         due("STATE first", x.share(2, 7), LOST - 3);
@@ -1125,6 +1157,18 @@ public final class PromisesTest {
         due("four floors of six, the WHOLE is no LEASE", x.may(0, 1023), 1);
         x.today(73000);
         due("END", x.may(0, 1023), 0);
+        promise("42 may, the first and the last person");
+        x.whole(3, 5);
+        x.lease(0, 1, 0, 9, 0);
+        x.lease(0, 2, 0, 9, 9);
+        law(3, 0, "f>0");
+        due("person 0", x.may(0, 1), 1);
+        due("person 9", x.may(0, 512), 1);
+        due("persons 1 to 8", x.may(0, 510), 0);
+        due("person 0 is fewest", x.more(0, 0), 1);
+        due("person 9 alone was asked", x.more(0, 512), 0);
+        x.end(1, 1);
+        due("one floor of two is less than two thirds", x.may(0, 1023), 0);
         promise("42 may, no act");
         x.whole(1, 0);
         x.lease(0, 1, 0, 9, 1);
@@ -1188,6 +1232,14 @@ public final class PromisesTest {
         due("a WHOLE", x.forfeit(0), UNKNOWN);
         due("none", x.forfeit(7), UNKNOWN);
         due("chain", x.chain(0, -1), 1);
+        promise("45 forfeit, later");
+        house();
+        x.today(500);
+        x.breach(2, true);
+        x.today(529);
+        due("29 days", x.forfeit(2), NO);
+        x.today(530);
+        due("30 days", x.forfeit(2), 0);
     }
 
     private static void relieve() {
