@@ -53,6 +53,7 @@ public final class RandomRunsTest {
             bad += run.wrong ? 1 : 0;
         }
         if (args.length > 2) {
+            System.out.println(over + " bought out, " + falls + " fell by buying");
             for (String name : NAMES) System.out.println(name + " " + Arrays.toString(SEEN.get(name)));
         }
         System.out.println(runs + " random runs, " + bad + " with a wrong answer");
@@ -61,7 +62,8 @@ public final class RandomRunsTest {
 
     /** A test that reaches no success and no refusal of a call would hold nothing. */
     private static boolean isWide() {
-        boolean wide = true;
+        boolean wide = over > 0 && falls > 0;
+        if (!wide) System.out.println(over + " bought out, " + falls + " fell by buying");
         for (String name : NAMES) {
             long[] seen = SEEN.get(name);
             if (seen == null || seen[0] == 0) {
@@ -96,6 +98,7 @@ public final class RandomRunsTest {
             wrong = true;
             return 0;
         }
+        if (name.equals("carry") && want == 1) countBuying();
         long refusal = want < LeaseLand.LOST / 2 ? want - LeaseLand.LOST : want;
         long[] seen = SEEN.computeIfAbsent(name, n -> new long[8]);
         if (refusal >= 0) seen[0]++;
@@ -108,6 +111,16 @@ public final class RandomRunsTest {
         }
         return want;
     }
+
+    /** Buyings over leases between, and such with others that fall: without them a part of promise 29 is not held. */
+    private void countBuying() {
+        for (SlowLand.H h : slow.holdings) {
+            if (h.way == 5 && h.ended == slow.now) over++;
+            if (h.way == 4 && h.fellWith == null && h.ended >= slow.now && h.out.way == 5) falls++;
+        }
+    }
+
+    private static int over, falls;
 
     private void compareAll() throws Exception {
         int before = calls;
@@ -161,7 +174,8 @@ public final class RandomRunsTest {
     private int floorsOf(int holding) {
         SlowLand.H h = slow.holding(holding);
         if (h == null || rarely()) return upTo(4200) - 50;
-        if (upTo(3) == 0) return h.floors;
+        // with one set of floors all along leases may buy what is above them
+        if (upTo(3) == 0 || mood == 3) return h.floors;
         int some = h.floors & chance.nextInt();
         return some == 0 ? h.floors : some;
     }
@@ -186,7 +200,7 @@ public final class RandomRunsTest {
         } else if (slow.holdings.isEmpty() || slow.holdings.size() < 4 && upTo(4) == 0) {
             call("whole", upTo(3) == 0 ? 1 + upTo(4095) : mood % 2 == 0 ? 15 : 7 << upTo(9), person());
         } else {
-            int[] weightsOfMoods = {60, 40, 20, 20, 50, 30};
+            int[] weightsOfMoods = {60, 40, 20, 50, 50, 30};
             if (upTo(100) < weightsOfMoods[mood]) holdingStep();
             else otherStep();
         }
@@ -213,6 +227,10 @@ public final class RandomRunsTest {
 
     private void holdingStep() throws Exception {
         int h = holding(), l = leaseNumber();
+        if (mood == 3 && upTo(12) == 0) {
+            buyStory(h);
+            return;
+        }
         switch (upTo(22)) {
             case 0: case 1: case 2: case 3: case 4:
                 grant("lease", h);
@@ -245,6 +263,27 @@ public final class RandomRunsTest {
                 call("stay", l);
                 break;
         }
+    }
+
+    /** A row of leases of one set of floors, others behind their days, and a notice to buy. */
+    private void buyStory(int h) throws Exception {
+        SlowLand.H top = slow.holding(h);
+        if (top == null || slow.holdings.size() > 34) return;
+        int now = slow.now, days = 2 + upTo(900), behind = now + days;
+        long first = call("lease", h, top.floors, now, behind + 1000, person());
+        long second = call("lease", (int) first, top.floors, now, behind + 500, person());
+        long third = call("lease", (int) second, top.floors, now, behind, person());
+        call("lease", (int) second, upTo(3) == 0 ? 1 + upTo(15) : top.floors, behind, behind + 1 + upTo(500), person());
+        call("lease", slow.holdings.size() - 1, top.floors, behind, behind + 1 + upTo(500), person());
+        call("lease", (int) third, top.floors & (1 + upTo(4095)), now + upTo(days), behind, person());
+        call("lease", (int) first, top.floors, behind + 500, behind + 1000, person());
+        call("wipe");
+        for (char sign : "f>0".toCharArray()) call("say", (int) sign);
+        call("act", 1, now);
+        long notice = call("notice", (int) (upTo(4) == 0 ? second : third), 1);
+        call("today", now + upTo(Math.min(days + 1, 70)));
+        call("answer", (int) notice, true);
+        call("carry", (int) notice);
     }
 
     private int ended(int l) {

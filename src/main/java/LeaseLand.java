@@ -119,8 +119,8 @@ public final class LeaseLand {
     }
 
     public int end(int holding, int way) {
-        Holding ending = land.findLease(holding);
-        if (ending == null) {
+        Holding ending = land.find(holding);
+        if (ending == null || ending.out == null) {
             return UNKNOWN;
         }
         if (way != GIVEN_UP && way != MERGED) {
@@ -231,10 +231,7 @@ public final class LeaseLand {
     // ---- 3 acts
 
     public int say(int sign) {
-        if (!isSign(sign)) {
-            return OUTSIDE;
-        }
-        return acts.length == MOST_SIGNS ? FULL : acts.addSign(sign);
+        return isSign(sign) ? acts.addSign(sign) : OUTSIDE;
     }
 
     public int wipe() {
@@ -405,8 +402,8 @@ public final class LeaseLand {
     }
 
     public int stay(int holding) {
-        Holding stays = land.findLease(holding);
-        if (stays == null) {
+        Holding stays = land.find(holding);
+        if (stays == null || stays.out == null) {
             return UNKNOWN;
         }
         if (stays.way != STANDS || land.today > stays.to) {
@@ -439,7 +436,7 @@ public final class LeaseLand {
         if (years < 1 || years > FAR_YEARS || !isPartOfWhole(t) || years <= market.lastYears()) {
             return OUTSIDE;
         }
-        return market.count == MOST_POINTS ? FULL : market.addPoint(years, t);
+        return market.addPoint(years, t);
     }
 
     public int blank() {
@@ -461,10 +458,7 @@ public final class LeaseLand {
     }
 
     public int sale(int years, int t) {
-        if (!isYears(years) || !isPartOfWhole(t)) {
-            return OUTSIDE;
-        }
-        return sales.count == MOST_SALES ? FULL : sales.add(years, t);
+        return isYears(years) && isPartOfWhole(t) ? sales.add(years, t) : OUTSIDE;
     }
 
     public long learned(int years, int without, int part) {
@@ -642,7 +636,7 @@ public final class LeaseLand {
         if (!isName(name) || !isName(of) || name == of || !isDay(from) || !isDay(to) || from >= to) {
             return OUTSIDE;
         }
-        return register.count == MOST_LINES ? FULL : register.add(name, of, from, to);
+        return register.add(name, of, from, to);
     }
 
     public int can(int lines) {
@@ -1015,7 +1009,9 @@ public final class LeaseLand {
         }
 
         boolean canStandAgain(Holding lost) {
-            return isInForce(lost.out) && lost.out.hasFloors(lost.floors) && !isInTheWay(lost, today, lost.to);
+            Holding above = lost.out;
+            boolean fits = above != null && isInForce(above) && above.hasFloors(lost.floors);
+            return fits && !isInTheWay(lost, today, lost.to);
         }
 
         int standAgain(Holding lost) {
@@ -1154,6 +1150,9 @@ public final class LeaseLand {
         Act last;
 
         int addSign(int sign) {
+            if (length >= MOST_SIGNS) {
+                return FULL;
+            }
             signs[length] = sign;
             length++;
             return length;
@@ -1427,6 +1426,9 @@ public final class LeaseLand {
         }
 
         int addPoint(int year, int t) {
+            if (count >= MOST_POINTS) {
+                return FULL;
+            }
             years[count] = year;
             parts[count] = t;
             count++;
@@ -1518,6 +1520,9 @@ public final class LeaseLand {
         long slope;
 
         int add(int year, int t) {
+            if (count >= MOST_SALES) {
+                return FULL;
+            }
             years[count] = year;
             parts[count] = t;
             count++;
@@ -1595,6 +1600,9 @@ public final class LeaseLand {
         int fewest = NONE;
 
         int add(int name, int of, int from, int to) {
+            if (count >= MOST_LINES) {
+                return FULL;
+            }
             int fresh = count;
             names[fresh] = name;
             ofs[fresh] = of;
