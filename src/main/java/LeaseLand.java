@@ -163,7 +163,7 @@ public final class LeaseLand {
             return UNKNOWN;
         }
         int place = 0;
-        for (Holding at = land.topOf(floor); at != null && place < MOST_HOLDINGS; at = land.nextOf(at, floor)) {
+        for (Holding at = land.nextOf(null, floor); at != null && place < MOST_HOLDINGS; at = land.nextOf(at, floor)) {
             if (place == i) {
                 return at.number;
             }
@@ -570,9 +570,11 @@ public final class LeaseLand {
     /** How many floors that count each person has: all that joining asks of the leases. */
     private void countJoined(Holding whole) {
         Arrays.fill(joined, 0);
+        Act act = acts.inForce(JOIN, land.today);
         for (int floor = 0; floor < FLOORS; floor++) {
             Holding last = whole.hasFloor(floor) ? land.lastOf(floor) : null;
-            if (last != null && last.out != null && hasRight(last, JOIN, land.today)) {
+            boolean isLease = last != null && last.out != null;
+            if (isLease && act != null && reading.isSo(act.text, land, last, land.today, NONE)) {
                 joined[last.person]++;
             }
         }
@@ -1085,13 +1087,10 @@ public final class LeaseLand {
             return many;
         }
 
-        Holding topOf(int floor) {
-            return nextOf(null, floor);
-        }
-
+        /** What of the floor's chain is right below one; the WHOLE is below none. */
         Holding nextOf(Holding above, int floor) {
             for (Holding at = first; at != null; at = at.next) {
-                if (at.out == above && at.hasFloor(floor) && isInForce(at)) {
+                if (at.out == above && at.hasFloor(floor) && at.isInForce(today)) {
                     return at;
                 }
             }
@@ -1100,7 +1099,7 @@ public final class LeaseLand {
 
         Holding lastOf(int floor) {
             Holding lowest = null;
-            Holding at = topOf(floor);
+            Holding at = nextOf(null, floor);
             for (int place = 0; at != null && place < MOST_HOLDINGS; place++) {
                 lowest = at;
                 at = nextOf(at, floor);
