@@ -31,7 +31,7 @@ class Edges {
     private static LeaseLand land = new LeaseLand();
     private static List<long[]> shownBefore;
     private static String document, quoted = "", title = "";
-    private static int sentences, answers, refusals, wrong;
+    private static int edges, answers, refusals, wrong;
 
     static {
         for (Method m : LeaseLand.class.getDeclaredMethods()) {
@@ -49,7 +49,6 @@ class Edges {
         quoted = promise + " '" + sentence + "', ";
         title = quoted + edge;
         SEEN.add(promise);
-        sentences++;
         String own = part("## Promise " + promise + ":", "\n## ");
         String terms = part("## The public face", "## Promise 1:");
         if (!own.contains(sentence) && !terms.contains(sentence)) fail("it does not stand in the document");
@@ -59,6 +58,7 @@ class Edges {
     /** Another new object for the same sentence. */
     static void again(String edge) {
         title = quoted + edge;
+        edges++;
         land = new LeaseLand();
         calls.clear();
         numbers.clear();
@@ -119,6 +119,16 @@ class Edges {
         does("act", kind, day);
     }
 
+    /**
+     * A WHOLE 0 of floors 0 to 2, person 0; a LEASE 1 of all for days 0 to 36500, person 1; under it 2, of floor 0 for
+     * days 0 to 3650, person 2.
+     */
+    static void house() {
+        due(0, "whole", 7, 0);
+        due(1, "lease", 0, 7, 0, 36500, 1);
+        due(2, "lease", 1, 1, 0, 3650, 2);
+    }
+
     /** Leases of one late day each, till there are so many holdings. */
     static void fill(int many, int out, int floors) {
         for (int i = (int) does("told", 0); i < many; i++) does("lease", out, floors, 72900 + i, 72901 + i, 9);
@@ -131,7 +141,7 @@ class Edges {
                 System.out.println("promise " + promise + " has no edge");
             }
         }
-        System.out.println("promises " + first + " to " + last + ": " + sentences + " edges, " + answers + " answers, "
+        System.out.println("promises " + first + " to " + last + ": " + edges + " edges, " + answers + " answers, "
             + refusals + " refused calls, " + wrong + " wrong");
         if (wrong != 0) System.exit(1);
     }

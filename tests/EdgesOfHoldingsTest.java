@@ -23,13 +23,6 @@ final class EdgesOfHoldingsTest extends Edges {
         finish(1, 11);
     }
 
-    /** A WHOLE 0 of floors 0 to 2, person 0; LEASE 1 of all, days 0 to 36500, person 1; under it 2, floor 0, to 3650. */
-    private static void house() {
-        due(0, "whole", 7, 0);
-        due(1, "lease", 0, 7, 0, 36500, 1);
-        due(2, "lease", 1, 1, 0, 3650, 2);
-    }
-
     private static void newObject() {
         String none = "No HOLDINGS, ACTS, NOTICES, points, SALES, LINES";
         edge(1, none, "no HOLDINGS");
@@ -299,6 +292,14 @@ final class EdgesOfHoldingsTest extends Edges {
         due(NO, "lease", 0, 2, 0, 60, 2);
         due(NO, "lease", 0, 15, 0, 60, 2);
         due(2, "lease", 0, 9, 0, 60, 2);
+        again("the last FLOOR");
+        does("whole", 4095, 0);
+        does("lease", 0, 2048, 0, 60, 1);
+        due(NO, "lease", 0, 2049, 0, 60, 2);
+        due(NO, "lease", 0, 2048, 59, 61, 2);
+        due(2, "lease", 0, 2047, 0, 60, 2);
+        due(3, "lease", 0, 2048, 60, 61, 2);
+        due(2048, "about", 3, FLOORS);
         again("out of another one it is not in the way");
         does("whole", 1, 0);
         does("lease", 0, 1, 0, 60, 1);
@@ -401,6 +402,23 @@ final class EdgesOfHoldingsTest extends Edges {
         due(NO, "between", 0, 13, 0, 100, 2);
         due(2, "between", 0, 7, 0, 100, 2);
         due(2, "about", 1, OUT);
+        again("the last FLOOR");
+        does("whole", 2047, 0);
+        does("whole", 2048, 0);
+        due(NO, "between", 0, 2048, 0, 100, 2);
+        due(2, "lease", 1, 2048, 0, 100, 1);
+        due(NO, "between", 1, 2048, 0, 99, 2);
+        due(3, "between", 1, 2048, 0, 100, 2);
+        due(3, "about", 2, OUT);
+        due(2048, "about", 3, FLOORS);
+        again("another one is the last FLOOR");
+        does("whole", 4095, 0);
+        does("lease", 0, 2049, 0, 100, 1);
+        due(NO, "between", 0, 1, 0, 100, 2);
+        due(NO, "between", 0, 2048, 0, 100, 2);
+        due(NO, "between", 0, 2047, 0, 100, 2);
+        due(2, "between", 0, 4095, 0, 100, 2);
+        due(4095, "about", 2, FLOORS);
         again("one that has none of the FLOORS stays");
         does("whole", 15, 0);
         does("lease", 0, 6, 0, 100, 1);
@@ -442,6 +460,15 @@ final class EdgesOfHoldingsTest extends Edges {
         does("end", 1, 1);
         due(2, "between", 0, 1, 40, 50, 2);
         due(0, "about", 1, OUT);
+        again("out of a LEASE");
+        house();
+        due(NO, "between", 1, 7, 0, 3649, 3);
+        due(NO, "between", 1, 7, 1, 36500, 3);
+        due(NO, "between", 1, 8, 0, 36500, 3);
+        due(1, "about", 2, OUT);
+        due(3, "between", 1, 7, 0, 3650, 3);
+        due(3, "about", 2, OUT);
+        due(1, "about", 3, OUT);
         edge(5, "these are out of the new one then", "two, not what is under them");
         does("whole", 3, 0);
         does("lease", 0, 1, 0, 50, 1);
@@ -640,6 +667,34 @@ final class EdgesOfHoldingsTest extends Edges {
         due(5, "about", 2, OUT);
         due(1, "about", 3, OUT);
         due(5, "about", 4, OUT);
+        again("the last FLOOR");
+        does("whole", 4095, 0);
+        does("lease", 0, 4095, 0, 100, 1);
+        does("lease", 1, 2049, 0, 100, 2);
+        due(NO, "part", 1, 1, 5);
+        due(NO, "part", 1, 2048, 5);
+        due(NO, "part", 1, 2047, 5);
+        due(NO, "part", 1, 4094, 5);
+        due(3, "part", 1, 2046, 5);
+        due(2049, "about", 1, FLOORS);
+        due(1, "about", 2, OUT);
+        again("the last FLOOR goes to the new one");
+        does("whole", 4095, 0);
+        does("lease", 0, 4095, 0, 100, 1);
+        does("lease", 1, 2048, 0, 100, 2);
+        does("lease", 1, 1024, 0, 100, 2);
+        due(4, "part", 1, 2048, 5);
+        due(2048, "about", 4, FLOORS);
+        due(2047, "about", 1, FLOORS);
+        due(4, "about", 2, OUT);
+        due(1, "about", 3, OUT);
+        again("the last FLOOR stays with the old one");
+        does("whole", 4095, 0);
+        does("lease", 0, 4095, 0, 100, 1);
+        does("lease", 1, 2048, 0, 100, 2);
+        due(3, "part", 1, 1024, 5);
+        due(3071, "about", 1, FLOORS);
+        due(1, "about", 2, OUT);
         again("one that is not begun lies across, too");
         does("whole", 3, 0);
         does("lease", 0, 3, 0, 100, 1);
@@ -673,7 +728,8 @@ final class EdgesOfHoldingsTest extends Edges {
         does("lease", 2, 1, 0, 50, 3);
         due(4, "part", 1, 1, 5);
         due(2, "about", 3, OUT);
-        String amount = "the new one's amount is the amount times the WEIGHT of its FLOORS by that of all, cut; the rest stays";
+        String amount =
+            "the new one's amount is the amount times the WEIGHT of its FLOORS by that of all, cut; the rest stays";
         edge(7, amount, "cut");
         house();
         does("rent", 1, 100, 0);
@@ -692,6 +748,20 @@ final class EdgesOfHoldingsTest extends Edges {
         due(3, "part", 1, 3, 5);
         due(99500, "about", 3, AMOUNT);
         due(500, "about", 1, AMOUNT);
+        again("the WEIGHT of the last FLOOR");
+        does("whole", 3072, 0);
+        does("lease", 0, 3072, 0, 100, 1);
+        does("rent", 1, 1000, 0);
+        does("weight", 11, 9);
+        due(2, "part", 1, 1024, 5);
+        due(100, "about", 2, AMOUNT);
+        again("the WEIGHT of the last FLOOR that goes");
+        does("whole", 3072, 0);
+        does("lease", 0, 3072, 0, 100, 1);
+        does("rent", 1, 1000, 0);
+        does("weight", 11, 9);
+        due(2, "part", 1, 2048, 5);
+        due(900, "about", 2, AMOUNT);
         again("nothing");
         house();
         due(3, "part", 1, 3, 5);
@@ -950,7 +1020,7 @@ final class EdgesOfHoldingsTest extends Edges {
         does("today", 73000);
         due(0, "chain", 0, -1);
         due(NONE, "chain", 0, 0);
-        edge(10, "as long as there is one, the LEASE out of the last one", "one that has not the FLOOR, a later number above");
+        edge(10, "as long as there is one, the LEASE out of the last one", "one without the FLOOR, a later one above");
         does("whole", 3, 0);
         does("lease", 0, 1, 0, 100, 1);
         does("lease", 0, 2, 0, 100, 1);
@@ -969,7 +1039,7 @@ final class EdgesOfHoldingsTest extends Edges {
     }
 
     private static void live() {
-        edge(11, "A PERSON LIVES on a FLOOR (-1: nowhere): on which it did (NONE)", "at first, floors 0 and 11, nowhere");
+        edge(11, "A PERSON LIVES on a FLOOR (-1: nowhere): on which it did (NONE)", "at first, 0, 11, nowhere");
         due(NONE, "live", 0, 0);
         due(0, "live", 0, 11);
         due(11, "live", 0, -1);

@@ -19,7 +19,7 @@ final class EdgesOfJoiningAndRegisterTest extends Edges {
         finish(42, 50);
     }
 
-    /** A WHOLE 0 of so many floors; out of it leases of one floor each, to persons 1, 2, 3 and on; those of "with" have t=10. */
+    /** A WHOLE 0 of so many floors; out of it leases of one floor each to persons 1, 2, 3 ..; "with" of them t=10. */
     private static void flats(int floors, int with) {
         due(0, "whole", (1 << floors) - 1, 0);
         for (int f = 0; f < floors && f < 9; f++) due(f + 1, "lease", 0, 1 << f, 0, f < with ? 3650 : 1000, f + 1);
@@ -122,7 +122,8 @@ final class EdgesOfJoiningAndRegisterTest extends Edges {
     }
 
     private static void counted() {
-        edge(42, "FLOORS count that have, as the last of THE CHAIN, a LEASE with the RIGHT of KIND 3", "the WHOLE itself");
+        String last = "FLOORS count that have, as the last of THE CHAIN, a LEASE with the RIGHT of KIND 3";
+        edge(42, last, "the WHOLE itself");
         due(0, "whole", 1, 1);
         law(3, 0, "f>0");
         due(1, "right", 0, 3);
@@ -141,6 +142,31 @@ final class EdgesOfJoiningAndRegisterTest extends Edges {
         due(0, "may", 0, 1023);
         does("today", 9);
         due(1, "may", 0, 2);
+        again("the last of 40");
+        due(0, "whole", 1, 0);
+        for (int i = 0; i < 39; i++) does("lease", i, 1, 0, 100, i % 10);
+        law(3, 0, "o=39");
+        due(1, "may", 0, 1 << 8);
+        due(1 << 8, "more", 0, 0);
+        again("the last FLOOR");
+        due(0, "whole", 2048, 0);
+        law(3, 0, "f>0");
+        due(0, "may", 0, 1023);
+        does("lease", 0, 2048, 0, 100, 1);
+        due(1, "may", 0, 2);
+        again("the FACTS are those of TODAY");
+        due(0, "whole", 3, 0);
+        does("lease", 0, 1, 0, 3650, 1);
+        does("lease", 0, 2, 0, 3650, 1);
+        law(3, 0, "h=1");
+        does("today", 364);
+        due(0, "may", 0, 2);
+        does("today", 365);
+        due(1, "may", 0, 2);
+        does("today", 729);
+        due(1, "may", 0, 2);
+        does("today", 730);
+        due(0, "may", 0, 2);
         again("the LEASE is over");
         flats(1, 1);
         does("today", 3649);
@@ -184,7 +210,8 @@ final class EdgesOfJoiningAndRegisterTest extends Edges {
         flats(4, 2);
         due(NONE, "more", 0, 0);
         due(NONE, "more", 0, 1023);
-        edge(43, "the least number of further PERSONS with which they may; of several the least as bits", "fewer, then less");
+        String least = "the least number of further PERSONS with which they may; of several the least as bits";
+        edge(43, least, "fewer, then less");
         flats(6, 6);
         does("sell", 5, 6);
         does("sell", 4, 6);
@@ -214,13 +241,6 @@ final class EdgesOfJoiningAndRegisterTest extends Edges {
         does("lease", 0, 1, 0, 10, 0);
         law(3, 0, "f>0");
         due(1, "more", 0, 1022);
-    }
-
-    /** A WHOLE 0 of floors 0 to 2, person 0; a LEASE 1 of all, days 0 to 36500, person 1; under it 2, floor 0, to 3650. */
-    private static void house() {
-        due(0, "whole", 7, 0);
-        due(1, "lease", 0, 7, 0, 36500, 1);
-        due(2, "lease", 1, 1, 0, 3650, 2);
     }
 
     private static void breach() {
@@ -491,6 +511,15 @@ final class EdgesOfJoiningAndRegisterTest extends Edges {
         does("today", 30);
         due(0, "forfeit", 2);
         does("part", 1, 4, 5);
+        due(NO, "relieve", 2);
+        again("the last FLOOR");
+        does("whole", 3072, 0);
+        does("lease", 0, 3072, 0, 100, 1);
+        does("lease", 1, 2048, 0, 100, 1);
+        does("breach", 2, true);
+        does("today", 30);
+        due(0, "forfeit", 2);
+        does("part", 1, 2048, 5);
         due(NO, "relieve", 2);
         again("others were parted");
         house();
@@ -792,6 +821,12 @@ final class EdgesOfJoiningAndRegisterTest extends Edges {
         due(2, "doubted", -1);
         due(0b0101, "doubted", 0);
         due(0b1001, "doubted", 1);
+        again("the last LINE, with two others against it");
+        does("line", 1, 2, 0, 10);
+        does("line", 2, 3, 0, 10);
+        does("line", 1, 2, 0, 20);
+        due(1, "doubted", -1);
+        due(4, "doubted", 0);
         edge(49, "of several sets the least as bits", "eleven of twelve");
         for (int i = 0; i < 12; i++) does("line", 1, 2, 0, 10);
         due(12, "doubted", -1);

@@ -18,14 +18,9 @@ final class EdgesOfNoticesTest extends Edges {
         finish(24, 30);
     }
 
-    /**
-     * A WHOLE 0 of floors 0 to 2, person 0; a LEASE 1 of all, days 0 to 36500, person 1; under it 2, floor 0, to 3650;
-     * each has the RIGHTS 0 and 1.
-     */
-    private static void house() {
-        due(0, "whole", 7, 0);
-        due(1, "lease", 0, 7, 0, 36500, 1);
-        due(2, "lease", 1, 1, 0, 3650, 2);
+    /** A house where each HOLDING has the RIGHTS 0 and 1. */
+    private static void rightful() {
+        house();
         law(0, 0, "f>0");
         law(1, 0, "f>0");
     }
@@ -40,13 +35,13 @@ final class EdgesOfNoticesTest extends Edges {
     private static void notice() {
         edge(24, "UNKNOWN: also a WHOLE", "a WHOLE, none");
         due(UNKNOWN, "notice", 0, 0);
-        house();
+        rightful();
         due(UNKNOWN, "notice", 0, 0);
         due(UNKNOWN, "notice", -1, 0);
         due(UNKNOWN, "notice", 3, 0);
         due(0, "notice", 2, 0);
         edge(24, "OUTSIDE: KIND", "-1, 0, 1, 2");
-        house();
+        rightful();
         due(OUTSIDE, "notice", 1, -1);
         due(OUTSIDE, "notice", 1, 2);
         due(OUTSIDE, "notice", 1, 3);
@@ -89,7 +84,7 @@ final class EdgesOfNoticesTest extends Edges {
         law(0, 0, "f>9");
         due(FULL, "notice", 2, 0);
         again("a LACK is none of these reasons");
-        house();
+        rightful();
         due(0, "notice", 1, 0);
         due(OUTSIDE, "notice", 1, 2);
         does("end", 2, 1);
@@ -109,7 +104,7 @@ final class EdgesOfNoticesTest extends Edges {
 
     private static void lacks() {
         edge(24, "1 it has not the RIGHT", "the ACT is not so, there is none, it is none yet");
-        house();
+        rightful();
         law(0, 0, "f=1");
         due(-201, "notice", 1, 0);
         due(0, "told", 3);
@@ -125,52 +120,52 @@ final class EdgesOfNoticesTest extends Edges {
         does("today", 6);
         due(0, "notice", 1, 0);
         edge(24, "2 it has one of that KIND that is OPEN, REFUSED or AGREED", "OPEN");
-        house();
+        rightful();
         due(0, "notice", 1, 0);
         due(-202, "notice", 1, 0);
         due(1, "told", 3);
         again("REFUSED");
-        house();
+        rightful();
         due(0, "notice", 1, 0);
         does("answer", 0, false);
         due(-202, "notice", 1, 0);
         again("AGREED, by an answer");
-        house();
+        rightful();
         due(0, "notice", 1, 0);
         does("answer", 0, true);
         due(-202, "notice", 1, 0);
         again("AGREED, as 60 days went");
-        house();
+        rightful();
         due(0, "notice", 1, 0);
         does("today", 60);
         due(-202, "notice", 1, 0);
         again("AGREED, by a tribunal");
-        house();
+        rightful();
         due(0, "notice", 1, 0);
         does("answer", 0, false);
         does("tribunal", 0, true);
         due(-202, "notice", 1, 0);
         again("DONE is none of these");
-        house();
+        rightful();
         due(0, "notice", 1, 0);
         does("answer", 0, true);
         does("carry", 0);
         due(1, "notice", 1, 0);
         again("LOST is none of these");
-        house();
+        rightful();
         due(0, "notice", 1, 0);
         does("answer", 0, false);
         does("tribunal", 0, false);
         due(1, "notice", 1, 0);
         again("another KIND, another LEASE");
-        house();
+        rightful();
         due(0, "notice", 1, 0);
         due(1, "notice", 1, 1);
         due(2, "notice", 2, 0);
         due(-202, "notice", 2, 0);
         due(-202, "notice", 1, 1);
         edge(24, "3 it withdrew one of that KIND fewer than 365 days ago", "the same day, 364 and 365 days");
-        house();
+        rightful();
         due(0, "notice", 1, 0);
         does("today", 5);
         does("withdraw", 0);
@@ -181,13 +176,13 @@ final class EdgesOfNoticesTest extends Edges {
         does("today", 370);
         due(1, "notice", 1, 0);
         again("another KIND, another LEASE");
-        house();
+        rightful();
         due(0, "notice", 1, 0);
         does("withdraw", 0);
         due(1, "notice", 1, 1);
         due(2, "notice", 2, 0);
         again("the later of two");
-        house();
+        rightful();
         due(0, "notice", 1, 0);
         does("withdraw", 0);
         does("today", 365);
@@ -198,7 +193,7 @@ final class EdgesOfNoticesTest extends Edges {
         does("today", 730);
         due(2, "notice", 1, 0);
         edge(24, "with a LACK -200 less that (none is kept)", "two LACKS at once: the first");
-        house();
+        rightful();
         due(0, "notice", 1, 0);
         due(1, "notice", 2, 0);
         does("withdraw", 1);
@@ -211,7 +206,7 @@ final class EdgesOfNoticesTest extends Edges {
     private static void answer() {
         edge(25, "UNKNOWN; STATE: it is not OPEN", "no NOTICE");
         due(UNKNOWN, "answer", 0, true);
-        house();
+        rightful();
         due(0, "notice", 1, 0);
         due(UNKNOWN, "answer", -1, true);
         due(UNKNOWN, "answer", 1, true);
@@ -219,7 +214,7 @@ final class EdgesOfNoticesTest extends Edges {
         due(UNKNOWN, "answer", LEAST, true);
         due(1, "answer", 0, true);
         again("AGREED, REFUSED, WITHDRAWN");
-        house();
+        rightful();
         for (int n = 0; n < 4; n++) due(n, "notice", 1 + n % 2, n / 2);
         due(1, "answer", 0, true);
         due(STATE, "answer", 0, false);
@@ -228,7 +223,7 @@ final class EdgesOfNoticesTest extends Edges {
         due(1, "withdraw", 2);
         due(STATE, "answer", 2, true);
         again("DONE, LOST");
-        house();
+        rightful();
         agreed(1, 0);
         due(1, "carry", 0);
         due(STATE, "answer", 0, true);
@@ -237,7 +232,7 @@ final class EdgesOfNoticesTest extends Edges {
         due(1, "tribunal", 1, false);
         due(STATE, "answer", 1, true);
         edge(25, "no answer within 60 days: from the 60th on", "the 59th, the 60th");
-        house();
+        rightful();
         does("today", 7);
         due(0, "notice", 1, 0);
         due(1, "notice", 2, 0);
@@ -248,7 +243,7 @@ final class EdgesOfNoticesTest extends Edges {
         due(STATE, "answer", 1, false);
         due(1, "status", 1);
         edge(25, "An answer: 1", "yes, no; the LEASE need not be IN FORCE");
-        house();
+        rightful();
         due(0, "notice", 1, 0);
         due(1, "notice", 2, 0);
         does("end", 2, 1);
@@ -261,13 +256,13 @@ final class EdgesOfNoticesTest extends Edges {
     private static void withdraw() {
         edge(26, "UNKNOWN; STATE: not OPEN, REFUSED or AGREED", "no NOTICE");
         due(UNKNOWN, "withdraw", 0);
-        house();
+        rightful();
         due(0, "notice", 1, 0);
         due(UNKNOWN, "withdraw", -1);
         due(UNKNOWN, "withdraw", 1);
         due(1, "withdraw", 0);
         again("OPEN, REFUSED, AGREED");
-        house();
+        rightful();
         for (int n = 0; n < 4; n++) due(n, "notice", 1 + n % 2, n / 2);
         due(1, "answer", 1, false);
         due(1, "answer", 2, true);
@@ -277,8 +272,19 @@ final class EdgesOfNoticesTest extends Edges {
         does("today", 60);
         due(1, "withdraw", 3);
         for (int n = 0; n < 4; n++) due(3, "status", n);
+        again("the day on which it was WITHDRAWN stays");
+        rightful();
+        due(0, "notice", 1, 0);
+        does("today", 5);
+        due(1, "withdraw", 0);
+        does("today", 300);
+        due(STATE, "withdraw", 0);
+        does("today", 369);
+        due(-203, "notice", 1, 0);
+        does("today", 370);
+        due(1, "notice", 1, 0);
         again("WITHDRAWN, DONE, LOST");
-        house();
+        rightful();
         agreed(1, 0);
         due(1, "carry", 0);
         due(STATE, "withdraw", 0);
@@ -294,14 +300,14 @@ final class EdgesOfNoticesTest extends Edges {
     private static void tribunal() {
         edge(27, "UNKNOWN; STATE: it is not REFUSED", "no NOTICE");
         due(UNKNOWN, "tribunal", 0, true);
-        house();
+        rightful();
         due(0, "notice", 1, 0);
         due(1, "answer", 0, false);
         due(UNKNOWN, "tribunal", -1, true);
         due(UNKNOWN, "tribunal", 1, true);
         due(1, "tribunal", 0, true);
         again("OPEN, AGREED, WITHDRAWN");
-        house();
+        rightful();
         for (int n = 0; n < 4; n++) due(n, "notice", 1 + n % 2, n / 2);
         due(STATE, "tribunal", 0, true);
         due(STATE, "tribunal", 0, false);
@@ -312,7 +318,7 @@ final class EdgesOfNoticesTest extends Edges {
         does("today", 60);
         due(STATE, "tribunal", 3, false);
         again("DONE, LOST");
-        house();
+        rightful();
         agreed(1, 0);
         due(1, "carry", 0);
         due(STATE, "tribunal", 0, false);
@@ -321,7 +327,7 @@ final class EdgesOfNoticesTest extends Edges {
         due(1, "tribunal", 1, false);
         due(STATE, "tribunal", 1, true);
         edge(27, "A tribunal on a REFUSED one: 1", "yes, no; long after");
-        house();
+        rightful();
         due(0, "notice", 1, 0);
         due(1, "notice", 2, 0);
         due(1, "answer", 0, false);
@@ -337,7 +343,7 @@ final class EdgesOfNoticesTest extends Edges {
     private static void status() {
         edge(28, "UNKNOWN", "no NOTICE");
         due(UNKNOWN, "status", 0);
-        house();
+        rightful();
         due(0, "notice", 1, 0);
         due(UNKNOWN, "status", -1);
         due(UNKNOWN, "status", 1);
@@ -345,7 +351,7 @@ final class EdgesOfNoticesTest extends Edges {
         due(UNKNOWN, "status", LEAST);
         due(0, "status", 0);
         edge(28, "or no answer within 60 days: from the 60th on", "the 59th, the 60th");
-        house();
+        rightful();
         does("today", 7);
         due(0, "notice", 1, 0);
         due(0, "status", 0);
@@ -354,7 +360,7 @@ final class EdgesOfNoticesTest extends Edges {
         does("today", 67);
         due(1, "status", 0);
         again("the LEASE ended");
-        house();
+        rightful();
         due(0, "notice", 2, 0);
         does("end", 2, 1);
         does("today", 59);
@@ -362,7 +368,7 @@ final class EdgesOfNoticesTest extends Edges {
         does("today", 60);
         due(1, "status", 0);
         edge(28, "STATUS: 0 OPEN; 1 AGREED", "what it is then stays");
-        house();
+        rightful();
         for (int n = 0; n < 4; n++) due(n, "notice", 1 + n % 2, n / 2);
         due(1, "answer", 0, false);
         due(1, "answer", 1, true);
@@ -380,7 +386,7 @@ final class EdgesOfNoticesTest extends Edges {
     private static void carry() {
         edge(29, "UNKNOWN; STATE: it is not AGREED, or the LEASE not IN FORCE", "no NOTICE");
         due(UNKNOWN, "carry", 0);
-        house();
+        rightful();
         agreed(2, 0);
         due(UNKNOWN, "carry", -1);
         due(UNKNOWN, "carry", 1);
@@ -388,7 +394,7 @@ final class EdgesOfNoticesTest extends Edges {
         due(UNKNOWN, "carry", LEAST);
         due(1, "carry", 0);
         again("OPEN, REFUSED, WITHDRAWN");
-        house();
+        rightful();
         for (int n = 0; n < 4; n++) due(n, "notice", 1 + n % 2, n / 2);
         due(STATE, "carry", 0);
         due(1, "answer", 1, false);
@@ -401,7 +407,7 @@ final class EdgesOfNoticesTest extends Edges {
         does("today", 60);
         due(1, "carry", 0);
         again("DONE, LOST");
-        house();
+        rightful();
         agreed(1, 0);
         due(1, "carry", 0);
         due(STATE, "carry", 0);
@@ -410,31 +416,31 @@ final class EdgesOfNoticesTest extends Edges {
         due(1, "tribunal", 1, false);
         due(STATE, "carry", 1);
         again("the LEASE: the day ahead of UNTIL, UNTIL");
-        house();
+        rightful();
         agreed(2, 0);
         does("today", 3650);
         due(STATE, "carry", 0);
         due(1, "status", 0);
         again("the day ahead of UNTIL");
-        house();
+        rightful();
         agreed(2, 0);
         does("today", 3649);
         due(1, "carry", 0);
         again("the LEASE was given up");
-        house();
+        rightful();
         agreed(2, 0);
         agreed(2, 1);
         does("end", 2, 1);
         due(STATE, "carry", 0);
         due(STATE, "carry", 1);
         again("neither the RIGHT nor the day it was given counts now");
-        house();
+        rightful();
         agreed(2, 0);
         law(0, 0, "f>9");
         does("today", 3000);
         due(1, "carry", 0);
         edge(29, "the first of these that fits", "two reasons at once");
-        house();
+        rightful();
         does("lease", 1, 1, 3650, 3651, 5);
         due(0, "notice", 2, 0);
         due(STATE, "carry", 0);
@@ -482,7 +488,7 @@ final class EdgesOfNoticesTest extends Edges {
         due(1, "carry", 0);
         due(73000, "about", 1, TO);
         edge(29, "its RENT is 0 from then on (amount 0)", "amount, doubling, those above");
-        house();
+        rightful();
         does("rent", 1, 30, 4);
         does("rent", 2, 40, 5);
         agreed(2, 0);
@@ -540,6 +546,13 @@ final class EdgesOfNoticesTest extends Edges {
         law(0, 0, "f>0");
         agreed(1, 0);
         does("lease", 0, 6, 300, 310, 3);
+        due(NO, "carry", 0);
+        again("the last FLOOR");
+        does("whole", 4095, 0);
+        does("lease", 0, 2049, 0, 100, 1);
+        does("lease", 0, 2048, 100, 101, 2);
+        law(0, 0, "f>0");
+        agreed(1, 0);
         due(NO, "carry", 0);
         again("others alone");
         does("whole", 7, 0);

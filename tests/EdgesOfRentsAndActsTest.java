@@ -20,13 +20,6 @@ final class EdgesOfRentsAndActsTest extends Edges {
         finish(12, 23);
     }
 
-    /** A WHOLE 0 of floors 0 to 2, person 0; a LEASE 1 of all, days 0 to 36500, person 1; under it 2, days 0 to 3650. */
-    private static void house() {
-        due(0, "whole", 7, 0);
-        due(1, "lease", 0, 7, 0, 36500, 1);
-        due(2, "lease", 1, 1, 0, 3650, 2);
-    }
-
     private static void rent() {
         edge(12, "an amount a YEAR (0 to 100000; 0 at first)", "below, first, last, beyond");
         house();
@@ -187,6 +180,11 @@ final class EdgesOfRentsAndActsTest extends Edges {
         does("end", 1, 1);
         due(5 + 5 * 2, "owed", 1, 370, 390);
         due(0, "owed", 1, 380, 800);
+        again("from days ahead of its from, doubling");
+        longLease(365, 1);
+        due(0, "owed", 1, 0, 10);
+        due(1, "owed", 1, 9, 11);
+        due(365 + 2, "owed", 1, 0, 376);
         again("a WHOLE has no RENT");
         longLease(365, 0);
         due(0, "owed", 0, 0, 73000);
@@ -250,8 +248,15 @@ final class EdgesOfRentsAndActsTest extends Edges {
         edge(16, "ACTS are texts of up to 48 signs", "the 48th and the 49th");
         for (int i = 1; i <= 48; i++) due(i, "say", (int) '!');
         due(FULL, "say", (int) '!');
+        due(FULL, "say", (int) 'l');
+        due(FULL, "say", (int) ')');
         due(48, "told", 1);
         due(48, "fault");
+        again("the last sign stays");
+        say("l<1|l<1|l<1|l<1|l<1|l<1|l<1|l<1|l<1|l<1|l<1|l<12");
+        due(FULL, "say", (int) '&');
+        due(FULL, "say", (int) 'x');
+        due(NONE, "fault");
         edge(16, "the first of these that fits", "OUTSIDE and FULL");
         for (int i = 1; i <= 48; i++) does("say", (int) '!');
         due(OUTSIDE, "say", 32);
@@ -427,7 +432,7 @@ final class EdgesOfRentsAndActsTest extends Edges {
             due(UNKNOWN, asked, 2, LEAST);
             due(1, asked, 0, 0);
             due(1, asked, 2, 3);
-            edge(promise, "A HOLDING IN FORCE on a day has the RIGHT", asked + ": STATE ahead of its from and from UNTIL on");
+            edge(promise, "A HOLDING IN FORCE on a day has the RIGHT", asked + ": STATE ahead of from, from UNTIL on");
             law(1, 0, "f>0");
             does("whole", 1, 0);
             does("lease", 0, 1, 10, 20, 1);
@@ -446,7 +451,7 @@ final class EdgesOfRentsAndActsTest extends Edges {
             due(1, asked, 0, 1);
             does("today", 73000);
             due(STATE, asked, 0, 1);
-            edge(promise, "ACT is in force on a day", asked + ": NONE without an ACT of that KIND, or ahead of its day");
+            edge(promise, "ACT is in force on a day", asked + ": NONE without an ACT of the KIND, ahead of its day");
             house();
             due(NONE, asked, 1, 1);
             law(0, 0, "f>0");
@@ -468,6 +473,19 @@ final class EdgesOfRentsAndActsTest extends Edges {
             due(STATE, asked, 1, 0);
             due(UNKNOWN, asked, 2, 0);
         }
+        edge(20, "h YEARS since it has its PERSON", "the FACTS are those of TODAY");
+        house();
+        law(0, 0, "h>0");
+        law(1, 0, "l=9");
+        does("today", 364);
+        due(0, "right", 2, 0);
+        due(1, "right", 2, 1);
+        does("today", 365);
+        due(1, "right", 2, 0);
+        due(1, "right", 2, 1);
+        does("today", 366);
+        due(1, "right", 2, 0);
+        due(0, "right", 2, 1);
         edge(20, "1, 0; NONE: there is no ACT", "1 and 0");
         house();
         law(0, 0, "f=3");
@@ -477,7 +495,8 @@ final class EdgesOfRentsAndActsTest extends Edges {
     }
 
     private static void actInForce() {
-        String latest = "that ACT is in force on a day that has the latest day of its own not later (of one day the last told)";
+        String latest =
+            "that ACT is in force on a day that has the latest day of its own not later (of one day the last told)";
         edge(20, latest, "of two days the later, whichever was told first");
         house();
         law(0, 10, "f=3");
@@ -597,6 +616,18 @@ final class EdgesOfRentsAndActsTest extends Edges {
         bits(2048, "f=4|f=4|f=4|f=4|f=4|f=4|f=4|f=4|f=4|f=4|f=4|f=3");
         bits(4095, "f=4|f=4|f=4|f=4|f=4|f=4|f=4|f=4|f=4|f=4|f=4|f=4");
         bits(2, "(f=4|(f=3))");
+        edge(21, "h YEARS since it has its PERSON", "the FACTS are those of TODAY");
+        house();
+        law(0, 0, "h>0|f=9");
+        law(1, 0, "l<9|f=9");
+        does("today", 364);
+        due(3, "decisive", 2, 0);
+        does("today", 365);
+        due(1, "decisive", 2, 0);
+        due(3, "decisive", 2, 1);
+        does("today", 366);
+        due(1, "decisive", 2, 0);
+        due(1, "decisive", 2, 1);
         edge(21, "comparisons of it", "of the ACT in force alone");
         house();
         law(0, 5, "f=3&f=3&f=3");
@@ -702,7 +733,7 @@ final class EdgesOfRentsAndActsTest extends Edges {
         due(0, "fact", 0, (int) 'o');
         due(1, "fact", 1, (int) 'o');
         due(39, "fact", 39, (int) 'o');
-        edge(22, "s 1, if its PERSON LIVES on one of its FLOORS, else 0", "nowhere, first, last, another, another PERSON");
+        edge(22, "s 1, if its PERSON LIVES on one of its FLOORS, else 0", "nowhere, first, last, another; sold");
         does("whole", 4095, 0);
         does("lease", 0, 2049, 0, 10, 1);
         due(0, "fact", 1, (int) 's');
@@ -754,7 +785,7 @@ final class EdgesOfRentsAndActsTest extends Edges {
         does("today", 73000);
         due(NONE, "first", 0, 0);
         due(NONE, "first", 0, 1);
-        edge(23, "on which a HOLDING has a RIGHT, all else as it is; NONE", "from, the day ahead of UNTIL, no ACT, never");
+        edge(23, "on which a HOLDING has a RIGHT, all else as it is; NONE", "from, ahead of UNTIL, no ACT, never");
         does("whole", 1, 0);
         does("lease", 0, 1, 10, 800, 1);
         due(NONE, "first", 1, 0);

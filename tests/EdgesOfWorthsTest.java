@@ -69,6 +69,8 @@ final class EdgesOfWorthsTest extends Edges {
         for (int i = 1; i <= 10; i++) due(i, "point", i, 5);
         due(FULL, "point", 11, 5);
         due(FULL, "point", 200, 5);
+        due(FULL, "point", 11, 10000);
+        due(FULL, "point", 200, 0);
         due(10, "told", 4);
         edge(32, "the first of these that fits", "OUTSIDE and FULL");
         for (int i = 1; i <= 10; i++) does("point", i, 5);
@@ -218,6 +220,8 @@ final class EdgesOfWorthsTest extends Edges {
         edge(36, "SALES, 20 at most", "the 20th and the 21st");
         for (int i = 1; i <= 20; i++) due(i, "sale", i % 3, 5);
         due(FULL, "sale", 5, 5);
+        due(FULL, "sale", 200, 10000);
+        due(FULL, "sale", 0, 0);
         due(20, "told", 5);
         edge(36, "the first of these that fits", "OUTSIDE and FULL");
         for (int i = 1; i <= 20; i++) does("sale", i % 3, 5);
@@ -387,8 +391,8 @@ final class EdgesOfWorthsTest extends Edges {
     }
 
     /**
-     * A WHOLE 0 of floors 0 to 2, a LEASE 1 of all for 100 YEARS (RENT 7), under it 2 of floor 0 for 10 YEARS (RENT 13);
-     * WORTH of 2 is 1000 now, and 9000 with 90 YEARS more.
+     * A WHOLE 0 of floors 0 to 2, a LEASE 1 of all for 100 YEARS (RENT 7), under it 2 of floor 0 for 10 YEARS (RENT
+     * 13); WORTH of 2 is 1000 now, and 9000 with 90 YEARS more.
      */
     private static void priced() {
         due(0, "whole", 7, 0);
@@ -417,6 +421,14 @@ final class EdgesOfWorthsTest extends Edges {
         does("today", 1);
         // with 99 YEARS 8911, with 9 YEARS 900
         due(8011, "price", 2, 1);
+        again("the last FLOOR");
+        does("whole", 2048, 0);
+        does("lease", 0, 2048, 0, 3650, 1);
+        does("value", 11, 10000);
+        does("point", 10, 1000);
+        does("point", 100, 9000);
+        due(8000, "price", 1, 1);
+        due(4500, "price", 1, 3);
         again("below nothing");
         priced();
         does("blank");
@@ -571,6 +583,27 @@ final class EdgesOfWorthsTest extends Edges {
         does("blank");
         due(0, "share", 2, 0);
         due(0, "share", 2, 1);
+        again("LOSSES of 1 in all");
+        priced();
+        does("set", 1, 0);
+        does("set", 0, 10);
+        does("rent", 1, 0, 0);
+        does("rent", 2, 1, 0);
+        due(1, "price", 2, 3);
+        due(3999, "price", 2, 2);
+        due(4000, "share", 2, 0);
+        due(0, "share", 2, 1);
+        edge(41, "of the RENT which it gets: RATE of what is out of it in that row", "RATES and YEARS left of TODAY");
+        priced();
+        does("rent", 2, 13, 1);
+        does("today", 364);
+        // WORTH 900 now, 8911 later; LOSSES 130 and 70 + 4550, MARRIAGE 1630: 44 (44.6)
+        due(174, "share", 2, 0);
+        due(4620 + 1586, "share", 2, 1);
+        does("today", 365);
+        // LOSSES 260 and 4620, MARRIAGE 1565: 83 (83.3)
+        due(343, "share", 2, 0);
+        due(4620 + 1482, "share", 2, 1);
         edge(41, "what is left over then goes to the WHOLE", "the WHOLE loses nothing");
         priced();
         does("between", 1, 1, 0, 3650, 5);
