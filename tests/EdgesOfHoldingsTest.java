@@ -798,6 +798,10 @@ final class EdgesOfHoldingsTest extends Edges {
         due(OUTSIDE, "part", 1, 0, 5);
         due(UNKNOWN, "part", 1, 1, -1);
         due(UNKNOWN, "part", 0, 1, 5);
+        again("a WHOLE that is not IN FORCE: UNKNOWN and STATE");
+        does("whole", 3, 0);
+        does("today", 73000);
+        due(UNKNOWN, "part", 0, 1, 5);
     }
 
     private static void end() {
@@ -901,6 +905,11 @@ final class EdgesOfHoldingsTest extends Edges {
         due(OUTSIDE, "end", 3, 2);
         due(STATE, "end", 3, 3);
         due(NO, "end", 2, 3);
+        again("a WHOLE that is not IN FORCE: UNKNOWN and STATE");
+        does("whole", 3, 0);
+        does("today", 73000);
+        due(UNKNOWN, "end", 0, 1);
+        due(UNKNOWN, "end", 0, 3);
     }
 
     private static void about() {

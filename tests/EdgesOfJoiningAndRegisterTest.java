@@ -267,6 +267,11 @@ final class EdgesOfJoiningAndRegisterTest extends Edges {
         due(STATE, "breach", 1, false);
         due(STATE, "breach", 1, true);
         due(19, "about", 1, BREACH);
+        edge(44, "the first of these that fits", "a WHOLE that is not IN FORCE: UNKNOWN and STATE");
+        does("whole", 3, 0);
+        does("today", 73000);
+        due(UNKNOWN, "breach", 0, true);
+        due(UNKNOWN, "breach", 0, false);
         edge(44, "1 (0: it was so)", "each");
         house();
         due(0, "breach", 1, false);
@@ -351,6 +356,11 @@ final class EdgesOfJoiningAndRegisterTest extends Edges {
         does("breach", 1, true);
         does("today", 50);
         due(STATE, "forfeit", 1);
+        again("a WHOLE that is not IN FORCE: UNKNOWN and STATE");
+        does("whole", 3, 0);
+        does("today", 73000);
+        due(UNKNOWN, "forfeit", 0);
+        due(UNKNOWN, "relieve", 0);
     }
 
     private static void forfeitFalls() {

@@ -83,6 +83,10 @@ final class EdgesOfNoticesTest extends Edges {
         due(OUTSIDE, "notice", 1, 2);
         law(0, 0, "f>9");
         due(FULL, "notice", 2, 0);
+        again("a WHOLE that is not IN FORCE: UNKNOWN and STATE");
+        does("whole", 3, 0);
+        does("today", 73000);
+        due(UNKNOWN, "notice", 0, 0);
         again("a LACK is none of these reasons");
         rightful();
         due(0, "notice", 1, 0);
@@ -937,6 +941,10 @@ final class EdgesOfNoticesTest extends Edges {
         due(UNKNOWN, "stay", 0);
         does("today", 101);
         due(STATE, "stay", 2);
+        again("a WHOLE that is not IN FORCE: UNKNOWN and STATE");
+        does("whole", 3, 0);
+        does("today", 73000);
+        due(UNKNOWN, "stay", 0);
         again("it ENDED, and one is in the way");
         stayers();
         does("today", 20);

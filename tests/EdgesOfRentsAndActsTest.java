@@ -464,6 +464,7 @@ final class EdgesOfRentsAndActsTest extends Edges {
             due(1, asked, 1, 1);
             edge(promise, "the first of these that fits", asked + ": two reasons at once");
             due(UNKNOWN, asked, 0, 4);
+            due(UNKNOWN, asked, 0, 0);
             does("whole", 1, 0);
             does("lease", 0, 1, 10, 20, 1);
             due(UNKNOWN, asked, 1, 4);

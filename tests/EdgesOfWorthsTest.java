@@ -265,6 +265,14 @@ final class EdgesOfWorthsTest extends Edges {
         due(3, "learned", 1, -1, 1);
         due(5, "learned", 2, -1, 0);
         due(6, "learned", 2, -1, 1);
+        again("20 SALES, beyond an int on the way");
+        twentySales();
+        due(39978100000L, "learned", 0, -1, 0);
+        due(3996019, "learned", 0, -1, 1);
+        due(3960100000L, "learned", 200, -1, 0);
+        due(10000, "learned", 0, 19, 0);
+        due(5000, "learned", 100, 19, 0);
+        due(1, "learned", 100, 19, 1);
         edge(37, "a SALE left out (-1: none)", "-2, -1, first, last, behind it");
         does("sale", 0, 100);
         does("sale", 10, 100);
@@ -278,6 +286,13 @@ final class EdgesOfWorthsTest extends Edges {
         due(100, "learned", 0, 1, 0);
         due(100, "learned", 0, 2, 0);
         due(400, "learned", 20, 1, 0);
+    }
+
+    /** Ten at 0 YEARS, nine at 200, and one at 199 that is far off. */
+    private static void twentySales() {
+        for (int i = 1; i <= 10; i++) does("sale", 0, 10000);
+        for (int i = 1; i <= 9; i++) does("sale", 200, 0);
+        does("sale", 199, 10000);
     }
 
     private static void learnedRefused() {
@@ -353,6 +368,10 @@ final class EdgesOfWorthsTest extends Edges {
         does("sale", 5, 0);
         due(4, "doubt", 0);
         due(1, "doubt", 1);
+        again("20 SALES, beyond an int on the way");
+        twentySales();
+        due(35820000000L, "doubt", 0);
+        due(3996019, "doubt", 1);
         again("a fraction");
         does("sale", 1, 1);
         does("sale", 2, 3);
@@ -551,6 +570,10 @@ final class EdgesOfWorthsTest extends Edges {
         due(LOST - 1, "price", 2, -1);
         due(LOST - 2, "price", 1, 4);
         due(LOST - 2, "price", 1, -1);
+        again("a WHOLE that is not IN FORCE: UNKNOWN and STATE");
+        does("whole", 3, 0);
+        does("today", 73000);
+        due(LOST - 1, "price", 0, 0);
     }
 
     private static void share() {
@@ -619,6 +642,20 @@ final class EdgesOfWorthsTest extends Edges {
         does("rent", 2, 1000, 0);
         due(10000, "share", 2, 0);
         due(4570, "share", 2, 1);
+        again("beyond an int on the way");
+        does("whole", 4095, 0);
+        does("lease", 0, 4095, 0, 36500, 1);
+        does("lease", 1, 4095, 0, 3650, 2);
+        for (int f = 0; f < 12; f++) does("value", f, 1000000);
+        does("point", 10, 0);
+        does("point", 100, 10000);
+        does("set", 0, 400);
+        does("set", 1, 0);
+        does("rent", 2, 100000, 0);
+        does("rent", 1, 50000, 0);
+        due(3000000, "price", 2, 2);
+        due(6000000, "share", 2, 0);
+        due(3000000, "share", 2, 1);
         again("right below the WHOLE");
         priced();
         due(LOST - 6, "share", 1, 1);
@@ -658,5 +695,9 @@ final class EdgesOfWorthsTest extends Edges {
         due(LOST - 1, "share", 2, -1);
         due(LOST - 3, "share", 1, 1);
         due(LOST - 3, "share", 1, -1);
+        again("a WHOLE that is not IN FORCE: UNKNOWN and STATE");
+        does("whole", 3, 0);
+        does("today", 73000);
+        due(LOST - 1, "share", 0, 0);
     }
 }
