@@ -44,13 +44,13 @@ class Edges {
         }
     }
 
-    /** A new object, for a sentence that stands under this promise or in the Terms, and for an edge of it. */
+    /** A new object, for a sentence that stands under this promise or ahead of all promises, and for an edge of it. */
     static void edge(int promise, String sentence, String edge) {
         quoted = promise + " '" + sentence + "', ";
         title = quoted + edge;
         SEEN.add(promise);
         String own = part("## Promise " + promise + ":", "\n## ");
-        String terms = part("## The public face", "## Promise 1:");
+        String terms = part("# LeaseLand", "## Promise 1:");
         if (!own.contains(sentence) && !terms.contains(sentence)) fail("it does not stand in the document");
         again(edge);
     }
@@ -141,8 +141,12 @@ class Edges {
                 System.out.println("promise " + promise + " has no edge");
             }
         }
-        System.out.println("promises " + first + " to " + last + ": " + edges + " edges, " + answers + " answers, "
-            + refusals + " refused calls, " + wrong + " wrong");
+        finish("promises " + first + " to " + last);
+    }
+
+    static void finish(String what) {
+        System.out.println(what + ": " + edges + " edges, " + answers + " answers, " + refusals + " refused calls, " + wrong
+            + " wrong");
         if (wrong != 0) System.exit(1);
     }
 

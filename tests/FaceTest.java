@@ -27,6 +27,7 @@ public final class FaceTest {
         String document = Files.readString(Path.of("../shared/DOC.md"));
         String program = Files.readString(Path.of("src/main/java/LeaseLand.java"));
         Set<String> face = lookAtFace(document);
+        lookAtOrder(document, program);
         lookAtClasses(face);
         lookAtSigns(program);
         lookAtMethods(program);
@@ -69,6 +70,24 @@ public final class FaceTest {
             && LeaseLand.NO == -5 && LeaseLand.NONE == -6, "refusals are -1 to -6");
         must(LeaseLand.LOST == -1000000000000000L && LeaseLand.END == 73000 && LeaseLand.LONG == 32850, "LOST, END, LONG");
         return names;
+    }
+
+    /** Ahead of the calls of each section the program says what the document tells of the interface. */
+    private static void lookAtOrder(String document, String program) {
+        Matcher section = Pattern.compile("Ahead of the calls (.*) the interface says: (---- \\d [^.]*)\\.").matcher(document);
+        int sections = 0;
+        while (section.find()) {
+            sections++;
+            String due = section.group(1).replace("`", "");
+            int start = program.indexOf("// " + section.group(2) + "\n");
+            must(start >= 0, section.group(2) + " stands in the program");
+            int end = program.indexOf("// ----", start + 3);
+            List<String> names = new ArrayList<>();
+            Matcher call = Pattern.compile("(?m)^    public (int|long) (\\w+)\\(").matcher(program.substring(Math.max(0, start), end));
+            while (call.find()) names.add(call.group(2));
+            must(due.equals(String.join(", ", names)), section.group(2) + ": " + names + " are " + due);
+        }
+        must(sections == 7, "the document has 7 sections");
     }
 
     private static void lookAtClasses(Set<String> face) {
